@@ -153,6 +153,12 @@ public final class FreezingTest {
         checkHole("a lift to inlet 2", 2, board);
         board.inlet(2, 1);
         checkHole("a lift to itself", -1, board);
+        board.row(1, Check.bytes("Aa", 0), 0);
+        board.inlet(0, -1);
+        board.inlet(1, 0);
+        checkHole("a lift to inlet 0, not there", 2, board);
+        board.inlet(0, 1);
+        board.row(1, Check.bytes("Ca", 0), 0);
         board.cell(1, 0, '.');
         checkHole("nothing below the inlet of a lift", 1, board);
     }
@@ -177,6 +183,7 @@ public final class FreezingTest {
         checkHole("a latch straight, its right", 5, Check.columns(1), ".[.", "ab.");
         checkHole("a latch straight, its left", 3, Check.columns(1), ".].", ".ab");
         checkHole("a latch going left", -1, Check.columns(1), "./", "[.", "a.");
+        checkHole("a latch going left, nothing below", 4, Check.columns(1), "./", "[.", ".a");
         checkHole("a latch going right", -1, Check.columns(0), "\\.", ".[", ".a");
         checkHole("a latch going right, nothing below", 5, Check.columns(0), "\\.", ".[", "a.");
         checkHole("a latch both ways", -1, Check.columns(0, 1), "\\|.", ".[.", "aaa");

@@ -43,6 +43,20 @@ public final class RunTest {
         Check.same("it leans left then", board.look(2, 1), '<');
         Check.same("a toggle leaning left, going left", board.drop(1), 0);
         Check.same("a toggle leaning right, going left", board.drop(1), 3);
+        dropThroughAsManyTogglesAsCanBe();
+    }
+
+    private static void dropThroughAsManyTogglesAsCanBe() {
+        MarbleBoard board = Check.frozen(Check.columns(1), ".<............", "a.b...........",
+            "<><><><><><><>", "<><><><><><><.");
+        Check.same("the first of 28 toggles", board.drop(0), 0);
+        Check.same("and again", board.drop(0), 1);
+        Check.same("28 toggles", board.explore(400), 2);
+        Check.same("no jam among them", board.jam(2), 0);
+        board.turn(12, 3, 1);
+        Check.same("undo", board.undo(), true);
+        Check.looksLike("28 toggles after undo", board, ".>............", "a.b...........",
+            "<><><><><><><>", "<><><><><><><.");
     }
 
     private static void dropThroughLatches() {

@@ -78,6 +78,14 @@ public final class SearchTest {
         Check.same("a circle of 400", chain(1).explore(400), 400);
         Check.same("a circle of 400, limit 399", chain(1).explore(399), MarbleBoard.MANY);
         Check.same("401 states", chain(0).explore(400), MarbleBoard.MANY);
+        MarbleBoard board = fourSplitters();
+        for (int k = 0; k < 4; k++) {
+            board.pattern(3 * k + 1, 0, 8, k);
+        }
+        board.freeze();
+        for (int limit = 390; limit <= 400; limit++) {
+            Check.same("4096 states", board.explore(limit), MarbleBoard.MANY);
+        }
     }
 
     private static void exploreWithLoops() {
@@ -228,9 +236,23 @@ public final class SearchTest {
         board.turn(1, 0, 0);
         board.turn(2, 1, 1);
         Check.same("a jam among less than 400", board.jam(1), 1);
-        String[] column = "|||||||||||||||a".split("");
-        Check.same("two marbles in a deep column", Check.frozen(Check.columns(0), column).jam(2), 0);
-        Check.same("three marbles in a deep column", Check.frozen(Check.columns(0), column).jam(3), MarbleBoard.MANY);
+        jamInADeepColumn();
+    }
+
+    /** With d rows there are 4 + 3 * d + 2 * d * (d - 1) / 2 + d * (d - 1) * (d - 2) / 6 situations of up to three marbles. */
+    private static void jamInADeepColumn() {
+        MarbleBoard board = Check.frozen(Check.columns(0), "|||||||||||a".split(""));
+        Check.same("three marbles, 392 situations", board.jam(3), 0);
+        Check.lay(board, "||||||||||||a".split(""));
+        board.inlet(0, 0);
+        board.freeze();
+        Check.same("three marbles, 485 situations", board.jam(3), MarbleBoard.MANY);
+        Check.same("two marbles", board.jam(2), 0);
+        MarbleBoard gate = Check.frozen(Check.columns(0), "||||||||||||||1a".split(""));
+        Check.same("three marbles at a gate", gate.jam(3), MarbleBoard.MANY);
+        Check.same("then one alone", gate.jam(1), 0);
+        Check.same("then two", gate.jam(2), 1);
+        Check.same("then one alone again", gate.jam(1), 0);
     }
 
     private static void jamChangesNothing() {
