@@ -49,12 +49,12 @@ final class Check {
         }
     }
 
-    private static long run(Runnable call) {
+    static long run(Runnable call) {
         call.run();
         return 0;
     }
 
-    private static String told(long answer) {
+    static String told(long answer) {
         return answer == STATE ? "IllegalStateException" : answer == ARGUMENT ? "IllegalArgumentException" : "" + answer;
     }
 
@@ -117,12 +117,26 @@ final class Check {
         return text.toString();
     }
 
+    /** What look() tells of one row, for tests that have few calls to spare. */
+    static String seenRow(MarbleBoard board, int y) {
+        StringBuilder text = new StringBuilder();
+        for (int x = 0; exists(board, x, y); x++) {
+            text.append(board.look(x, y));
+        }
+        return text.toString();
+    }
+
     private static boolean exists(MarbleBoard board, int x, int y) {
         return answer(() -> board.look(x, y)) != ARGUMENT;
     }
 
     static void looksLike(String what, MarbleBoard board, String... rows) {
         same(what, seen(board), String.join("\n", rows) + "\n");
+    }
+
+    /** The values on both sides of a range, and the least and the greatest there are. */
+    static int[] beside(int least, int most) {
+        return new int[] {least - 1, most + 1, Integer.MIN_VALUE, Integer.MAX_VALUE};
     }
 
     static boolean isFrozen(MarbleBoard board) {

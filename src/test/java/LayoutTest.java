@@ -37,7 +37,10 @@ public final class LayoutTest {
             Check.same("frozen", Check.isFrozen(board), true);
             for (int n = 1; n <= 1 << bits; n++) {
                 Check.same("drop " + n + " of " + bits, board.drop(0), n == 1 << bits ? 1 : 0);
-                Check.same("bits after " + n, counted(board, bits), n & (1 << bits) - 1);
+                // Not after each one: an object is used for 512 calls only.
+                if (bits < 7 || n % 16 == 15 || n == 1 << bits) {
+                    Check.same("bits after " + n, counted(board, bits), n & (1 << bits) - 1);
+                }
             }
         }
     }
@@ -176,18 +179,18 @@ public final class LayoutTest {
         MarbleBoard board = told(0, 1, 2, 3);
         board.table(3);
         board.input(2, 1);
-        Check.same("row 8", Check.seen(board).split("\n")[8], ".]...]...]...].");
+        Check.same("row 8", Check.seenRow(board, 8), ".]...]...]...].");
         board.input(1, 1);
-        Check.same("row 5", Check.seen(board).split("\n")[5], "...].......]...");
-        Check.same("row 0", Check.seen(board).split("\n")[0], ".......[.......");
+        Check.same("row 5", Check.seenRow(board, 5), "...].......]...");
+        Check.same("row 0", Check.seenRow(board, 0), ".......[.......");
         board.input(0, 1);
-        Check.same("row 0 then", Check.seen(board).split("\n")[0], ".......].......");
+        Check.same("row 0 then", Check.seenRow(board, 0), ".......].......");
         board.turn(5, 8, 0);
         board.input(2, 1);
-        Check.same("row 8 after a turn", Check.seen(board).split("\n")[8], ".]...]...]...].");
+        Check.same("row 8 after a turn", Check.seenRow(board, 8), ".]...]...]...].");
         board.input(2, 0);
-        Check.same("row 8 leaning back", Check.seen(board).split("\n")[8], ".[...[...[...[.");
-        Check.same("row 5 as it was", Check.seen(board).split("\n")[5], "...].......]...");
+        Check.same("row 8 leaning back", Check.seenRow(board, 8), ".[...[...[...[.");
+        Check.same("row 5 as it was", Check.seenRow(board, 5), "...].......]...");
         board.table(2);
         board.input(1, 1);
         Check.looksLike("table(2)", board, "...[...", "../.\\..", ".|...|.", ".]...].", "a.b.c.d");

@@ -8,7 +8,6 @@ public final class RunTest {
         dropThroughLifts();
         dropIntoAShutGate();
         dropRoundAndRound();
-        dropMovesOnThreeHundredTimes();
         dropRefuses();
         undoGoesBack();
         undoSkipsLoops();
@@ -124,43 +123,6 @@ public final class RunTest {
         Check.same("the toggle stays again", board.value(1, 0), 1);
         Check.same("the other inlet", board.drop(1), 0);
         Check.same("a lift to itself", Check.frozen(Check.columns(0), "A").drop(0), MarbleBoard.LOOP);
-    }
-
-    /**
-     * A counter whose marbles are lifted up again till it is full: 20 times 15 moves, or one more
-     * when outlet b is a row deeper.
-     */
-    private static void dropMovesOnThreeHundredTimes() {
-        for (int outletRow = 13; outletRow <= 15; outletRow++) {
-            MarbleBoard board = liftedCounter(14, outletRow, 12);
-            boolean ends = outletRow <= 14;
-            Check.same("outlet in row " + outletRow, board.drop(0), ends ? 1 : MarbleBoard.LOOP);
-            Check.same("count", board.count(1), ends ? 1 : 0);
-            for (int i = 0; i < 5; i++) {
-                Check.same("bit " + i, board.value(i + 1, i), ends ? 0 : 12 >> i & 1);
-            }
-        }
-        Check.same("a longer lap", liftedCounter(15, 15, 12).drop(0), MarbleBoard.LOOP);
-        Check.same("a lap less", liftedCounter(15, 15, 14).drop(0), 1);
-    }
-
-    static MarbleBoard liftedCounter(int liftRow, int outletRow, int start) {
-        MarbleBoard board = new MarbleBoard();
-        board.board(7, 16);
-        for (int i = 0; i < 5; i++) {
-            board.cell(i + 1, i, (start >> i & 1) == 0 ? '<' : '>');
-            for (int y = i + 1; y < liftRow; y++) {
-                board.cell(i, y, '|');
-            }
-            board.cell(i, liftRow, 'A');
-        }
-        for (int y = 5; y < outletRow; y++) {
-            board.cell(6, y, '|');
-        }
-        board.cell(6, outletRow, 'b');
-        board.inlet(0, 1);
-        Check.same("a lifted counter can be frozen", board.freeze(), 1);
-        return board;
     }
 
     private static void dropRefuses() {

@@ -47,38 +47,13 @@ public final class SearchTest {
         Check.same("one without an inlet", both.explore(400), 2);
     }
 
-    /** Four splitters, each below an inlet of its own: 8 * 5 * 5 * 2 states. */
-    private static MarbleBoard fourSplitters() {
-        MarbleBoard board = Check.board(".s..s..s..s.", "a.ba.ba.ba.c");
-        int[] lengths = {8, 5, 5, 2};
-        for (int k = 0; k < 4; k++) {
-            board.inlet(k, 3 * k + 1);
-            board.pattern(3 * k + 1, 0, lengths[k], 0b10110);
-        }
-        Check.same("four splitters can be frozen", board.freeze(), 1);
-        return board;
-    }
-
-    /** The same numbers in a chain from one inlet: 400 states in a circle, and a latch that only the first state has. */
-    private static MarbleBoard chain(int first) {
-        MarbleBoard board = Check.board("\\.....", ".[....", ".s....", "a.s...", ".a.s..", "..a.s.", "...a.b");
-        board.inlet(0, 0);
-        int[] lengths = {8, 5, 5, 2};
-        for (int i = 0; i < 4; i++) {
-            board.pattern(i + 1, i + 2, lengths[i], 1 << lengths[i] - 1);
-        }
-        board.turn(1, 1, first);
-        Check.same("a chain can be frozen", board.freeze(), 1);
-        return board;
-    }
-
     private static void exploreOfFourHundred() {
-        Check.same("four splitters", fourSplitters().explore(400), 400);
-        Check.same("four splitters, limit 399", fourSplitters().explore(399), MarbleBoard.MANY);
-        Check.same("a circle of 400", chain(1).explore(400), 400);
-        Check.same("a circle of 400, limit 399", chain(1).explore(399), MarbleBoard.MANY);
-        Check.same("401 states", chain(0).explore(400), MarbleBoard.MANY);
-        MarbleBoard board = fourSplitters();
+        Check.same("four splitters", Boards.withFourHundredStates().explore(400), 400);
+        Check.same("four splitters, limit 399", Boards.withFourHundredStates().explore(399), MarbleBoard.MANY);
+        Check.same("a circle of 400", Boards.withCircleOfStates(1).explore(400), 400);
+        Check.same("a circle of 400, limit 399", Boards.withCircleOfStates(1).explore(399), MarbleBoard.MANY);
+        Check.same("401 states", Boards.withCircleOfStates(0).explore(400), MarbleBoard.MANY);
+        MarbleBoard board = Boards.withFourHundredStates();
         for (int k = 0; k < 4; k++) {
             board.pattern(3 * k + 1, 0, 8, k);
         }
@@ -96,9 +71,9 @@ public final class SearchTest {
         Check.same("then two runs", board.explore(400), 3);
         MarbleBoard lifts = Check.frozen(Check.columns(1), ".<.", "A.A");
         Check.same("LOOP by lifts", lifts.explore(400), 1);
-        Check.same("a run of 301 moves", RunTest.liftedCounter(14, 15, 12).explore(400), 1);
-        // Behind its outlet it is empty, and the next run would take 32 times 15 moves.
-        Check.same("a run of 300 moves", RunTest.liftedCounter(14, 14, 12).explore(400), 2);
+        Check.same("a run of 301 moves", Boards.withRunOf(301).explore(400), 1);
+        // Behind its outlet it is empty, and the next run would take 64 laps of 10 moves.
+        Check.same("a run of 300 moves", Boards.withRunOf(300).explore(400), 2);
     }
 
     private static void exploreChangesNothing() {
@@ -158,12 +133,12 @@ public final class SearchTest {
     }
 
     private static void canReachOfFourHundred() {
-        Check.same("400 states", fourSplitters().canReach(3, 2), 1);
-        Check.same("400 states, not there", fourSplitters().canReach(0, 2), 0);
-        Check.same("a circle of 400", chain(1).canReach(0, 1), 1);
-        Check.same("a circle of 400, not there", chain(1).canReach(0, 3), 0);
-        Check.same("401 states", chain(0).canReach(0, 0), MarbleBoard.MANY);
-        Check.same("401 states, not there", chain(0).canReach(0, 3), MarbleBoard.MANY);
+        Check.same("400 states", Boards.withFourHundredStates().canReach(3, 2), 1);
+        Check.same("400 states, not there", Boards.withFourHundredStates().canReach(0, 2), 0);
+        Check.same("a circle of 400", Boards.withCircleOfStates(1).canReach(0, 1), 1);
+        Check.same("a circle of 400, not there", Boards.withCircleOfStates(1).canReach(0, 3), 0);
+        Check.same("401 states", Boards.withCircleOfStates(0).canReach(0, 0), MarbleBoard.MANY);
+        Check.same("401 states, not there", Boards.withCircleOfStates(0).canReach(0, 3), MarbleBoard.MANY);
     }
 
     private static void canReachRefuses() {
@@ -222,19 +197,17 @@ public final class SearchTest {
         Check.same("a counter", counter.jam(3), 0);
     }
 
-    /** One marble on a lifted counter: a situation for each of its moves, one before and one behind. */
+    /** One marble has a situation for each time that it moves on, with one before and one behind. */
     private static void jamOfFourHundred() {
-        Check.same("400 situations", RunTest.liftedCounter(14, 7, 5).jam(1), 0);
-        Check.same("401 situations", RunTest.liftedCounter(14, 8, 5).jam(1), MarbleBoard.MANY);
-        Check.same("399 situations", RunTest.liftedCounter(14, 6, 5).jam(1), 0);
-        MarbleBoard board = RunTest.liftedCounter(14, 7, 5);
-        board.cell(6, 0, '0');
-        board.cell(6, 1, 'a');
-        board.inlet(1, 6);
+        Check.same("400 situations", Boards.withRunOf(398).jam(1), 0);
+        Check.same("401 situations", Boards.withRunOf(399).jam(1), MarbleBoard.MANY);
+        MarbleBoard board = Boards.withRunOf(398);
+        board.cell(7, 0, '0');
+        board.cell(7, 1, 'a');
+        board.inlet(1, 7);
         board.freeze();
         Check.same("a jam among more than 400", board.jam(1), MarbleBoard.MANY);
-        board.turn(1, 0, 0);
-        board.turn(2, 1, 1);
+        board.turn(3, 2, 1);
         Check.same("a jam among less than 400", board.jam(1), 1);
         jamInADeepColumn();
     }
