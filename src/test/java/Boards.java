@@ -73,7 +73,7 @@ final class Boards {
         board.inlet(0, 0);
         board.inlet(2, 3);
         board.pattern(1, 1, 5, 0b01101);
-        board.turn(1, 1, 3);
+        board.turn(1, 1, 2);
         return board;
     }
 

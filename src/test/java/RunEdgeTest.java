@@ -8,6 +8,7 @@ public final class RunEdgeTest {
         dropRefusesInlets();
         undoOfThirtyOneToThirtyThree();
         undoOfManyMore();
+        undoneDropsMakeRoom();
         undoTakesNoLoop();
         undoTakesEachDropOnce();
         undoOnlySinceFrozen();
@@ -137,6 +138,18 @@ public final class RunEdgeTest {
         Check.same("state after 33 more", counted(board), 69);
     }
 
+    /** Promise 13: "is not undone, of the latest 32": one that is undone is no more among the 32. */
+    private static void undoneDropsMakeRoom() {
+        MarbleBoard board = dropped(40);
+        for (int i = 0; i < 10; i++) {
+            Check.same("undo " + i + " of 10", board.undo(), true);
+        }
+        drop(board, 10);
+        undo("40 drops, 10 undone, 10 more", board, 32);
+        Check.same("state after them", counted(board), 8);
+        Check.same("count after them", board.count(0), 8);
+    }
+
     /** Promise 13: "the latest drop() that was no LOOP" */
     private static void undoTakesNoLoop() {
         MarbleBoard board = Check.frozen(Check.columns(0, 1, 3), "30.<.", "aab.c");
@@ -252,7 +265,7 @@ public final class RunEdgeTest {
         board.roll(0);
         board.tick(64);
         Check.same("a marble at once is no drop", board.undo(), false);
-        Check.same("the position behind it", board.value(1, 1), 4);
+        Check.same("the position behind it", board.value(1, 1), 3);
         Probe.changesNothing("undo() of none", RunEdgeTest::allUndone, b -> b.undo());
     }
 

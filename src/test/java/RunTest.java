@@ -12,7 +12,6 @@ public final class RunTest {
         undoGoesBack();
         undoSkipsLoops();
         undoTakesBackTurnsToo();
-        undoRemembersThirtyTwo();
         undoRefuses();
         countOfEachOutlet();
         Check.end();
@@ -197,47 +196,6 @@ public final class RunTest {
         Check.looksLike("the state before the drop again", board, ".<.2", "a.bc");
         Check.same("its count stays", board.count(2), 1);
         Check.same("no more", board.undo(), false);
-    }
-
-    private static void undoRemembersThirtyTwo() {
-        MarbleBoard board = new MarbleBoard();
-        board.counter(8);
-        dropTimes(board, 40);
-        undoTimes(board, 32);
-        Check.same("undo of the 33rd", board.undo(), false);
-        Check.same("value after 32 undone", counted(board), 8);
-        Check.same("count after 32 undone", board.count(0), 8);
-        dropTimes(board, 40);
-        undoTimes(board, 10);
-        dropTimes(board, 10);
-        undoTimes(board, 32);
-        Check.same("undo of the 33rd again", board.undo(), false);
-        Check.same("value after all", counted(board), 16);
-        board.counter(8);
-        dropTimes(board, 32);
-        undoTimes(board, 32);
-        Check.same("undo of all", board.undo(), false);
-        Check.same("value after all undone", counted(board), 0);
-    }
-
-    private static void dropTimes(MarbleBoard board, int times) {
-        for (int i = 0; i < times; i++) {
-            board.drop(0);
-        }
-    }
-
-    private static void undoTimes(MarbleBoard board, int times) {
-        for (int i = 0; i < times; i++) {
-            Check.same("undo " + i + " of " + times, board.undo(), true);
-        }
-    }
-
-    private static int counted(MarbleBoard board) {
-        int counted = 0;
-        for (int i = 0; i < 8; i++) {
-            counted |= board.value(i + 1, i) << i;
-        }
-        return counted;
     }
 
     private static void undoRefuses() {

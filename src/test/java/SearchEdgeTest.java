@@ -327,11 +327,11 @@ public final class SearchEdgeTest {
         Check.same("the cells after MANY", Check.seen(board), before);
         Check.same("no marbles after MANY", board.marbles(0), 0);
         Check.same("no count after MANY", board.count(1), 0);
-        Probe.changesNothing("jam after held marbles", SearchEdgeTest::heldBefore, b -> b.jam(3));
+        Probe.changesNothing("jam after marbles at once", SearchEdgeTest::allGone, b -> b.jam(3));
     }
 
-    /** One marble was held in the latest tick, in which the other one went, and is gone by a turn of its gate. */
-    private static MarbleBoard heldBefore() {
+    /** One marble was held while the other one went, and is gone since. */
+    private static MarbleBoard allGone() {
         MarbleBoard board = Check.frozen(Check.columns(0, 1), "|a", "B.");
         board.roll(0);
         board.tick(1);

@@ -3,18 +3,17 @@ public final class SearchTest {
     public static void main(String[] args) {
         exploreCountsStates();
         exploreCountsFromThePresentState();
-        exploreOfFourHundred();
         exploreWithLoops();
         exploreChangesNothing();
         exploreRefuses();
         canReachByStates();
-        canReachOfFourHundred();
         canReachRefuses();
         jamAtAShutGate();
         jamOfTwoMarbles();
         jamNeedsAllHeld();
         jamNeedsAMarble();
-        jamOfFourHundred();
+        jamAmongManyAndFew();
+        jamInADeepColumn();
         jamChangesNothing();
         jamRefuses();
         Check.end();
@@ -45,22 +44,6 @@ public final class SearchTest {
         both.inlet(1, -1);
         both.freeze();
         Check.same("one without an inlet", both.explore(400), 2);
-    }
-
-    private static void exploreOfFourHundred() {
-        Check.same("four splitters", Boards.withFourHundredStates().explore(400), 400);
-        Check.same("four splitters, limit 399", Boards.withFourHundredStates().explore(399), MarbleBoard.MANY);
-        Check.same("a circle of 400", Boards.withCircleOfStates(1).explore(400), 400);
-        Check.same("a circle of 400, limit 399", Boards.withCircleOfStates(1).explore(399), MarbleBoard.MANY);
-        Check.same("401 states", Boards.withCircleOfStates(0).explore(400), MarbleBoard.MANY);
-        MarbleBoard board = Boards.withFourHundredStates();
-        for (int k = 0; k < 4; k++) {
-            board.pattern(3 * k + 1, 0, 8, k);
-        }
-        board.freeze();
-        for (int limit = 390; limit <= 400; limit++) {
-            Check.same("4096 states", board.explore(limit), MarbleBoard.MANY);
-        }
     }
 
     private static void exploreWithLoops() {
@@ -132,15 +115,6 @@ public final class SearchTest {
         Check.same("not the second one's", two.canReach(0, 2), 0);
     }
 
-    private static void canReachOfFourHundred() {
-        Check.same("400 states", Boards.withFourHundredStates().canReach(3, 2), 1);
-        Check.same("400 states, not there", Boards.withFourHundredStates().canReach(0, 2), 0);
-        Check.same("a circle of 400", Boards.withCircleOfStates(1).canReach(0, 1), 1);
-        Check.same("a circle of 400, not there", Boards.withCircleOfStates(1).canReach(0, 3), 0);
-        Check.same("401 states", Boards.withCircleOfStates(0).canReach(0, 0), MarbleBoard.MANY);
-        Check.same("401 states, not there", Boards.withCircleOfStates(0).canReach(0, 3), MarbleBoard.MANY);
-    }
-
     private static void canReachRefuses() {
         MarbleBoard board = Check.board("a");
         board.inlet(1, 0);
@@ -197,10 +171,7 @@ public final class SearchTest {
         Check.same("a counter", counter.jam(3), 0);
     }
 
-    /** One marble has a situation for each time that it moves on, with one before and one behind. */
-    private static void jamOfFourHundred() {
-        Check.same("400 situations", Boards.withRunOf(398).jam(1), 0);
-        Check.same("401 situations", Boards.withRunOf(399).jam(1), MarbleBoard.MANY);
+    private static void jamAmongManyAndFew() {
         MarbleBoard board = Boards.withRunOf(398);
         board.cell(7, 0, '0');
         board.cell(7, 1, 'a');
@@ -209,18 +180,9 @@ public final class SearchTest {
         Check.same("a jam among more than 400", board.jam(1), MarbleBoard.MANY);
         board.turn(3, 2, 1);
         Check.same("a jam among less than 400", board.jam(1), 1);
-        jamInADeepColumn();
     }
 
-    /** With d rows there are 4 + 3 * d + 2 * d * (d - 1) / 2 + d * (d - 1) * (d - 2) / 6 situations of up to three marbles. */
     private static void jamInADeepColumn() {
-        MarbleBoard board = Check.frozen(Check.columns(0), "|||||||||||a".split(""));
-        Check.same("three marbles, 392 situations", board.jam(3), 0);
-        Check.lay(board, "||||||||||||a".split(""));
-        board.inlet(0, 0);
-        board.freeze();
-        Check.same("three marbles, 485 situations", board.jam(3), MarbleBoard.MANY);
-        Check.same("two marbles", board.jam(2), 0);
         MarbleBoard gate = Check.frozen(Check.columns(0), "||||||||||||||1a".split(""));
         Check.same("three marbles at a gate", gate.jam(3), MarbleBoard.MANY);
         Check.same("then one alone", gate.jam(1), 0);
